@@ -162,6 +162,28 @@ public final class ActsTest {
         Check.due("13 year 0", x.count(3), 0);
         Check.due("13 open", x.count(4), 7);
         Check.due("13 nobody got it", x.count(9), 0);
+        x = Check.told("c9,2,1,4,1,1;d1,0,1;d9,6,0;m3,6,1;");
+        x.years(2);
+        x.years(1);
+        x.build(0, 2, 3);
+        x.speed(7);
+        x.build(1, 8, 0);
+        x.build(2, 1, 1);
+        x.years(19);
+        Check.due("13 24 acts", x.count(6), 24);
+        for (int k = 0; k < 19; k++) {
+            x.undo();
+        }
+        Check.due("13 back, behind one that is forgotten", x.undo(), 4);
+        Check.due("13 the miser", x.at(3, 6), 2);
+        Check.due("13 back", x.undo(), 3);
+        Check.due("13 the second door", x.at(9, 6), 1);
+        Check.due("13 back", x.undo(), 2);
+        Check.due("13 the speed", x.count(8), 4);
+        Check.due("13 back", x.undo(), 1);
+        Check.due("13 the first door", x.at(1, 0), 0);
+        Check.due("13 back", x.undo(), 0);
+        Check.due("13 the first two years are forgotten", x.count(3), 2);
     }
 
     private static void housesAndCells() {

@@ -65,6 +65,13 @@ public final class GuessesTest {
         Check.row(x, 0, -1, 0);
         Check.due("26 starts with a drift of 2", x.rolls(0, 0, 2, 0), 2);
         Check.due("26 no drift", x.rolls(0, 0, 2, 1), 0);
+        x = Check.told("c2,3,2,5,0,2;p1,3,0;d2,2,0;");
+        Check.row(x, 0, 1, -1);
+        Check.due("26 it is so by 3 alone", x.rolls(0, 0, 1, 0), 8);
+        Check.due("26 by each drift, at the speed of now", x.rolls(0, 0, 1, 1), 127);
+        Check.due("26 by each drift but none", x.rolls(0, 0, 2, 1), 126);
+        Check.due("26 by speeds 2 to 9", x.rolls(0, 0, 1, 2), 1020);
+        Check.due("26 by tend 0", x.rolls(0, 0, 1, 3), 1);
     }
 
     private static void speeds() {
@@ -140,6 +147,10 @@ public final class GuessesTest {
         Check.due("29 made otherwise ahead of the year", x.drawn(10, 1, 0), 4);
         x.door(0, 0);
         Check.due("29 opened ahead of the year", x.drawn(7, 1, 0), 4);
+        x = Check.told("c2,3,0,9,1,1;d1,6,0;d1,4,0;");
+        Check.due("29 none is made otherwise before", x.drawn(6, 1, 0), 3);
+        x = Check.told("c2,3,0,9,1,1;d1,2,0;");
+        Check.due("29 the only one is made otherwise", x.drawn(10, 1, 0), 1);
         Check.due("29 BAD n -1", x.drawn(-1, 1, 0), Check.BAD);
         Check.due("29 BAD n 61", x.drawn(61, 1, 0), Check.BAD);
         Check.due("29 BAD seed 0", x.drawn(1, 0, 0), Check.BAD);

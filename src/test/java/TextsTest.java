@@ -66,6 +66,10 @@ public final class TextsTest {
         Check.due("7 a post office", x.kind(2), 2);
         Check.feed(x, LAW + "d1,0,0;d1,1,0;d1,2,0;d1,3,0;d1,4,0;d5,0,0;");
         Check.due("7 six houses", x.hill(), 6);
+        Check.feed(x, LAW + "d1,0,0;");
+        Check.due("7 one house in place of six", x.hill(), 1);
+        Check.due("7 nobody else is open", x.count(4), 1);
+        Check.due("7 nobody else stands there", x.at(1, 1), Check.NONE);
         Check.due("8 no fault yet", x.fault(), 0);
     }
 
@@ -116,6 +120,9 @@ public final class TextsTest {
         faulty(LAW + "d5,6,2;", 18, 2);
         faulty(LAW + "d5;", 15, 1);
         faulty(LAW + "d5,6;", 17, 1);
+        faulty(LAW + "d5,6d1,1,0;", 17, 1);
+        faulty(LAW + "d5d1,1,0;", 15, 1);
+        faulty(LAW + "d5,6,1d1,1,0;", 19, 1);
         faulty(LAW + "d5,6,1,", 19, 1);
         faulty(LAW + "d5,6,1", 19, 1);
         faulty(LAW + "dd", 14, 1);

@@ -154,6 +154,12 @@ public final class WaysTest {
         for (int d = 0; d < lines.length; d++) {
             Check.due("17 drift 6, d " + d, x.line(0, d), lines[d]);
         }
+        x = Check.told("c2,0,1,9,1,1;p2,3,0;p1,4,0;p2,4,0;");
+        Check.due("18 beside the post offices", x.left(2), 9);
+        Check.due("18 through one", x.left(3), 8);
+        Check.due("18 through two", x.left(4), 7);
+        Check.due("18 through none again", x.left(5), 9);
+        x = Check.told("c2,6,6,5,1,1;");
         x.years(3);
         Check.due("17 d from now on", x.line(0, 2), 1);
         Check.due("36 the line this year", x.count(5), 3);

@@ -79,6 +79,9 @@ public final class WishesTest {
         Check.due("22 BAD on a hill without houses", Check.told("c2,3,0,9,1,1;").shun(1, 0, 0), Check.BAD);
         Check.due("22 a hill of six", Check.told("c9,0,0,9,1,1;m1,0,0;m2,0,0;m3,0,0;m4,0,0;m5,0,0;m6,0,0;")
                 .shun(62, 0, 0), 0);
+        x = Check.told("c9,6,0,9,1,1;m1,0,0;m2,0,0;m3,0,0;m4,0,0;m5,0,0;d6,0,0;");
+        Check.due("22 the flat is none of six", x.shun(63, 0, 0), 0);
+        Check.due("21 the flat is none of six", x.aim(5, 0, 0), Check.NONE);
     }
 
     private static void site(String of, SaintHill x, int house, int n, int tier, int line, int times) {
@@ -100,6 +103,8 @@ public final class WishesTest {
         x = Check.told("c2,0,1,9,1,1;d2,3,0;w1,0,0;");
         site("where another one stands", x, 0, 1, 2, 0, 1);
         site("where another one stands", x, 0, 7, 1, 1, 1);
+        x = Check.told("c2,3,0,9,1,1;p1,3,0;m2,0,0;");
+        site("where the first one stands", x, 1, 4, 2, 3, 4);
         x = Check.told("c2,2,0,9,1,1;d1,2,0;");
         site("it stays", x, 0, 5, 1, 2, 5);
         x.door(0, 0);
@@ -137,13 +142,27 @@ public final class WishesTest {
         x.build(1, 2, 2);
         x.door(1, 0);
         Check.due("24 each alone would have it", x.sulks(), 3);
+        x = Check.told("c2,3,1,9,1,1;d1,3,1;");
+        x.door(0, 0);
+        Check.due("24 who would have it this year", x.sulks(), 1);
         x = Check.told("c2,3,1,9,1,1;d1,3,0;");
+        Check.due("24 who has it this year", x.sulks(), 1);
         x.years(1);
         Check.due("24 this year", x.sulks(), 0);
         Check.due("24 no houses", Check.told("c2,3,1,9,1,1;").sulks(), 0);
     }
 
+    /** The doors of the way down are shut one behind the other, from the top. */
+    private static void peaceOfThree() {
+        SaintHill x = Check.told("c4,3,0,7,0,2;d4,0,0;d1,3,0;p4,2,0;d3,1,0;");
+        Check.due("25 of three: it rests at 1", x.rests(0), 1);
+        Check.due("25 of three: he sulks", x.sulks(), 2);
+        Check.due("25 of three: thrice", x.peace(0), 3);
+        Check.due("25 of three: the post office is open", x.peace(1), 4);
+    }
+
     private static void peaces() {
+        peaceOfThree();
         SaintHill x = new SaintHill();
         Check.due("25 STATE ahead of BAD", x.peace(2), Check.STATE);
         x = Check.told("c2,3,0,9,1,1;d1,3,0;d2,2,1;");
