@@ -596,6 +596,10 @@ public final class SaintHill {
     }
 
     private static final class Hill {
+        /** The bounds of a law's NUMBERS, in the order in which a text tells them. */
+        private static final int[] LEAST = {2, 0, 0, 1, 0, 1};
+        private static final int[] MOST = {9, 6, 6, 9, 2, 9};
+
         private final House[] houses = new House[MOST_HOUSES];
         private final Roll roll = new Roll();
         private boolean told;
@@ -795,9 +799,6 @@ public final class SaintHill {
     /** The bytes of a text, and the HILL that they tell. */
     private static final class Tape {
         private static final int MISPLACED = 1, UNTOLD_NUMBER = 2, NO_ROOM = 3;
-        /** The bounds of a law's NUMBERS, in the order in which a text tells them. */
-        private static final int[] LEAST = {2, 0, 0, 1, 0, 1};
-        private static final int[] MOST = {9, 6, 6, 9, 2, 9};
 
         private final int[] bytes = new int[MOST_BYTES];
         private int size;
@@ -831,10 +832,10 @@ public final class SaintHill {
 
         private boolean readLaw(Hill into) {
             boolean good = readSign('c');
-            for (int k = 0; k < LEAST.length && good; k++) {
-                int value = readNumber(LEAST[k], MOST[k]);
+            for (int k = 0; k < Hill.LEAST.length && good; k++) {
+                int value = readNumber(Hill.LEAST[k], Hill.MOST[k]);
                 into.putLaw(k, value);
-                good = value >= 0 && readSign(k < LEAST.length - 1 ? ',' : ';');
+                good = value >= 0 && readSign(k < Hill.LEAST.length - 1 ? ',' : ';');
             }
             return good;
         }
@@ -979,9 +980,7 @@ public final class SaintHill {
     private static final class Seer {
         private static final int MOST_TURNS = 40, FLAT = 6;
         private static final long FACTOR = 16807L, MODULUS = 2147483647L;
-        /** The bounds of START, DRIFT, SPEED, TEND, and the place of START among a law's NUMBERS. */
-        private static final int[] LEAST = {0, 0, 1, 0};
-        private static final int[] MOST = {6, 6, 9, 2};
+        /** START, DRIFT, SPEED, TEND stand behind one another among a law's NUMBERS, from here on. */
         private static final int START_PLACE = 1;
 
         private final Hill trial = new Hill();
@@ -1065,8 +1064,12 @@ public final class SaintHill {
         int lawsThatFit(Hill now, int what, Row row, int from, int n) {
             trial.become(now);
             int fitting = 0;
-            for (int value = LEAST[what]; value <= MOST[what]; value++) {
-                trial.putLaw(START_PLACE + what, value);
+            int place = START_PLACE + what;
+            if (!within(place, 0, Hill.LEAST.length - 1)) {
+                return fitting;
+            }
+            for (int value = Hill.LEAST[place]; value <= Hill.MOST[place]; value++) {
+                trial.putLaw(place, value);
                 if (fits(row, from, n)) {
                     fitting |= 1 << value;
                 }

@@ -64,12 +64,14 @@ public final class RandomRunsTest {
         text.append(tiers).append(',').append(random.nextInt(7)).append(',').append(random.nextInt(7)).append(',');
         text.append(1 + random.nextInt(random.nextBoolean() ? 3 : 9)).append(',').append(random.nextInt(3));
         text.append(',').append(1 + random.nextInt(9)).append(';');
-        int houses = random.nextInt(8);
-        for (int i = 0; i < houses; i++) {
-            text.append("dpmwuddpdd".charAt(random.nextInt(10))).append(1 + random.nextInt(tiers)).append(',');
-            text.append(random.nextInt(7)).append(',').append(random.nextInt(2)).append(';');
+        int houses = random.nextInt(3) == 0 ? random.nextInt(8) : 6;
+        int[] cells = random.ints(0, 7 * tiers).distinct().limit(houses).toArray();
+        for (int cell : cells) {
+            int any = random.nextInt(50) == 0 ? random.nextInt(7 * tiers) : cell;
+            text.append("dpmwuddpdd".charAt(random.nextInt(10))).append(1 + any / 7).append(',');
+            text.append(any % 7).append(',').append(random.nextInt(2)).append(';');
         }
-        if (random.nextInt(4) == 0) {
+        if (random.nextInt(6) == 0) {
             int where = random.nextInt(text.length());
             String any = "cdpmwuxz0123456789,; C:/";
             switch (random.nextInt(3)) {
@@ -98,7 +100,7 @@ public final class RandomRunsTest {
 
     private static int[] call(Random random) {
         int which = random.nextInt(37);
-        int house = near(random, 0, 3 + random.nextInt(3));
+        int house = near(random, 0, 2 + random.nextInt(4));
         int row = near(random, 0, 2);
         int d = near(random, 0, 60);
         return switch (which) {
@@ -106,9 +108,10 @@ public final class RandomRunsTest {
             case 1 -> new int[] {1, row, near(random, 0, 20), random.nextBoolean() ? near(random, -1, 5) : random.nextInt()};
             case 2 -> new int[] {2, row, near(random, 0, 9), near(random, 0, 2), near(random, 0, 9), near(random, 0, 9)};
             case 3 -> random.nextInt(5) == 0 ? new int[] {3, row} : new int[] {1, row, near(random, 0, 5), -1};
-            case 4 -> random.nextInt(9) == 0 ? new int[] {4, near(random, 0, 255)} : new int[] {18, house};
-            case 5 -> random.nextInt(9) == 0 ? new int[] {5} : new int[] {15, d};
-            case 6, 35, 36 -> new int[] {6};
+            case 4 -> random.nextInt(30) == 0 ? new int[] {4, near(random, 0, 255)} : new int[] {18, house};
+            case 5 -> random.nextInt(30) == 0 ? new int[] {5} : new int[] {15, d};
+            case 6 -> new int[] {6};
+            case 35, 36 -> new int[] {0, row, near(random, 0, 2), 5 + near(random, 0, 20)};
             case 7 -> new int[] {7, near(random, 1, random.nextBoolean() ? 3 : 24)};
             case 8 -> new int[] {8, house, near(random, 0, 1)};
             case 9 -> new int[] {9, house, near(random, 1, 9), near(random, 0, 6)};

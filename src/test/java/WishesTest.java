@@ -105,6 +105,9 @@ public final class WishesTest {
         site("where another one stands", x, 0, 7, 1, 1, 1);
         x = Check.told("c2,3,0,9,1,1;p1,3,0;m2,0,0;");
         site("where the first one stands", x, 1, 4, 2, 3, 4);
+        x = Check.told("c2,3,0,9,1,1;w1,0,0;d2,0,0;");
+        x.door(1, 0);
+        site("nowhere, and the first one stands on the first cell", x, 1, 4, 1, 1, 0);
         x = Check.told("c2,2,0,9,1,1;d1,2,0;");
         site("it stays", x, 0, 5, 1, 2, 5);
         x.door(0, 0);
