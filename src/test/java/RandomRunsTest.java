@@ -11,7 +11,8 @@ import java.util.regex.Pattern;
 
 /** Long runs of calls, right and wrong ones, beside a second reading of the document that shares no code. */
 public final class RandomRunsTest {
-    private static final int RUNS = 1500, CALLS = 500;
+    /** An object is good for 512 calls: these, and the twelve at the end. */
+    private static final int RUNS = 3000, CALLS = 500;
 
     public static void main(String[] args) {
         for (int run = 0; run < RUNS && Check.wrongSoFar() == 0; run++) {
@@ -38,24 +39,18 @@ public final class RandomRunsTest {
                 call = call(random);
             }
             told.append(' ').append(Arrays.toString(call));
-            compare("run " + run + ", the last of" + told, x, y, call);
+            int got = ByNumber.answer(x, call);
+            int want = y.answer(call);
+            if (got != want) {
+                Check.due("run " + run + ", the last of" + told, got, want);
+            }
         }
-    }
-
-    private static void compare(String of, SaintHill x, Second y, int[] call) {
-        int got = Calls.answer(x, call);
-        int want = y.answer(call);
-        if (got != want) {
-            Check.due(of, got, want);
-            return;
-        }
+        String end = "run " + run + ", at the end of" + told;
         for (int what = 0; what <= 9 && Check.wrongSoFar() == 0; what++) {
-            Check.due(of + ", then count " + what, x.count(what), y.count(what));
+            Check.due(end + ", count " + what, x.count(what), y.count(what));
         }
-        if (x.status() != y.status || x.fault() != y.fault) {
-            Check.due(of + ", then status", x.status(), y.status);
-            Check.due(of + ", then fault", x.fault(), y.fault);
-        }
+        Check.due(end + ", status", x.status(), y.status);
+        Check.due(end + ", fault", x.fault(), y.fault);
     }
 
     private static String text(Random random) {
@@ -99,7 +94,7 @@ public final class RandomRunsTest {
     }
 
     private static int[] call(Random random) {
-        int which = random.nextInt(37);
+        int which = random.nextInt(42);
         int house = near(random, 0, 2 + random.nextInt(4));
         int row = near(random, 0, 2);
         int d = near(random, 0, 60);
@@ -138,12 +133,14 @@ public final class RandomRunsTest {
             case 31 -> new int[] {31, house};
             case 32 -> new int[] {32, house, near(random, 0, 5)};
             case 33 -> new int[] {33, house, near(random, 0, 1)};
-            default -> new int[] {34, near(random, 0, 6)};
+            case 34 -> new int[] {34, near(random, 0, 6)};
+            case 37 -> new int[] {36};
+            default -> new int[] {35, near(random, 0, 9)};
         };
     }
 
     /** The calls by number. */
-    private static final class Calls {
+    private static final class ByNumber {
         static int answer(SaintHill x, int[] c) {
             return switch (c[0]) {
                 case 0 -> x.row(c[1], c[2], c[3]);
@@ -179,7 +176,9 @@ public final class RandomRunsTest {
                 case 31 -> x.kind(c[1]);
                 case 32 -> x.as(c[1], c[2]);
                 case 33 -> x.ask(c[1], c[2]);
-                default -> x.trace(c[1]);
+                case 34 -> x.trace(c[1]);
+                case 35 -> x.count(c[1]);
+                default -> x.status();
             };
         }
     }
@@ -313,6 +312,9 @@ public final class RandomRunsTest {
 
         int answer(int[] c) {
             boolean rowed = c[0] < 4 || c[0] == 25 || c[0] == 26 || c[0] == 32;
+            if (c[0] > 34) {
+                return c[0] == 36 ? status : out(c[1], 0, 9) ? Check.BAD : count(c[1]);
+            }
             int answer = c[0] < 4 ? rowCall(c) : c[0] < 14 ? actCall(c) : c[0] < 25 ? foretold(c) : otherCall(c);
             if (rowed && (answer > -1000001 || answer < -1000003)) {
                 status = answer <= -1000011 && answer >= -1000015 ? -1000010 - answer : 0;
