@@ -581,6 +581,9 @@ public final class SaintHill {
         }
 
         void reach(int tier) {
+            if (!within(tier, 0, MOST_TIERS)) {
+                return;
+            }
             reached = tier;
             lines[tier] = line;
         }
