@@ -25,19 +25,12 @@ public final class RandomRunsTest {
         SaintHill x = new SaintHill();
         Second y = new Second();
         StringBuilder told = new StringBuilder();
-        String waiting = "";
+        Deque<int[]> waiting = new ArrayDeque<>();
         for (int k = 0; k < CALLS && Check.wrongSoFar() == 0; k++) {
-            int[] call;
-            if (!waiting.isEmpty()) {
-                boolean end = waiting.charAt(0) == '!';
-                call = end ? new int[] {5} : new int[] {4, waiting.charAt(0)};
-                waiting = waiting.substring(1);
-            } else if (random.nextInt(k < 3 ? 2 : 60) == 0) {
-                waiting = text(random) + "!";
-                continue;
-            } else {
-                call = call(random);
+            if (waiting.isEmpty()) {
+                plan(random, y, k, waiting);
             }
+            int[] call = waiting.poll();
             told.append(' ').append(Arrays.toString(call));
             int got = ByNumber.answer(x, call);
             int want = y.answer(call);
@@ -51,6 +44,62 @@ public final class RandomRunsTest {
         }
         Check.due(end + ", status", x.status(), y.status);
         Check.due(end + ", fault", x.fault(), y.fault);
+    }
+
+    /** Puts what comes next: mostly one call, now and then several that only together tell something. */
+    private static void plan(Random random, Second y, int sofar, Deque<int[]> waiting) {
+        int dice = random.nextInt(sofar < 3 ? 2 : 60);
+        if (dice == 0) {
+            for (char letter : text(random).toCharArray()) {
+                waiting.add(new int[] {4, letter});
+            }
+            waiting.add(new int[] {5});
+        } else if (dice == 2 && y.now != null) {
+            guesses(random, y.now, waiting);
+        } else if (dice == 3) {
+            asks(random, waiting);
+        } else if (dice == 4 && random.nextInt(30) == 0) {
+            lastYears(random, waiting);
+        } else {
+            waiting.add(call(random));
+        }
+    }
+
+    /** A row that tells what comes, or nearly so, and what it was by which it comes. */
+    private static void guesses(Random random, Slope now, Deque<int[]> waiting) {
+        int n = 1 + random.nextInt(16);
+        int from = random.nextInt(3);
+        boolean holds = random.nextInt(3) > 0;
+        waiting.add(new int[] {0, 1, random.nextInt(3), from + n});
+        for (int k = 0; k < n; k++) {
+            int rests = now.later(k).go().house;
+            waiting.add(new int[] {1, 1, from + k, holds || random.nextInt(n) > 0 ? rests : random.nextInt(8) - 2});
+        }
+        for (int what = 0; what < 4; what++) {
+            waiting.add(new int[] {25, 1, from, n, what});
+        }
+        for (int house = 0; house < now.homes.size(); house++) {
+            waiting.add(new int[] {26, house, 1, from, n});
+        }
+    }
+
+    private static void asks(Random random, Deque<int[]> waiting) {
+        waiting.add(new int[] {33, random.nextInt(6), random.nextInt(2)});
+        for (int i = 0; i < 8; i++) {
+            waiting.add(new int[] {34, i});
+        }
+    }
+
+    /** Time goes on till near the last YEAR that there is, and tries to go beyond. */
+    private static void lastYears(Random random, Deque<int[]> waiting) {
+        for (int k = 0; k < 41; k++) {
+            waiting.add(new int[] {7, 24});
+        }
+        for (int k = 0; k < 12; k++) {
+            waiting.add(new int[] {7, 1 + random.nextInt(8)});
+            waiting.add(new int[] {35, 3});
+        }
+        waiting.add(new int[] {14, random.nextInt(61)});
     }
 
     private static String text(Random random) {
@@ -116,7 +165,7 @@ public final class RandomRunsTest {
             case 13 -> new int[] {13, near(random, 1, 9), near(random, 0, 6)};
             case 14, 15 -> new int[] {14, d};
             case 16 -> new int[] {15, d};
-            case 17 -> new int[] {16, near(random, 0, 5), d};
+            case 17 -> new int[] {16, near(random, 0, random.nextBoolean() ? 4 : 9), d};
             case 18 -> new int[] {17, d};
             case 19 -> new int[] {19, house, near(random, 1, 60)};
             case 20 -> new int[] {20, house, d, near(random, 0, 1)};
